@@ -222,9 +222,9 @@ public final class Katacode {
             case 'n':
                 return asked.length;
             case 'v':
-                return asked.voteCount();
+                return asked.voteCount;
             case 'w':
-                return asked.weightSum();
+                return asked.weightSum;
             default:
                 throw new IllegalArgumentException("no such thing");
         }
@@ -314,8 +314,7 @@ public final class Katacode {
             throw new UnsupportedOperationException("the own one, without a body, or in f");
         }
         int weight = beltOf(member) + 1;
-        asked.votes[member] = style;
-        asked.weights[member] = weight;
+        asked.takeVote(member, style, weight);
         return weight;
     }
 
@@ -351,11 +350,11 @@ public final class Katacode {
     public int best(int member, int kata) throws IndexOutOfBoundsException, NoSuchElementException {
         memberAt(member);
         kataAt(kata);
-        int taken = takenWork(member, kata);
-        if (taken == NONE) {
+        takeWorks(member);
+        if (takenRow[kata] == NONE) {
             throw new NoSuchElementException("no work of the member counts");
         }
-        return taken;
+        return takenRow[kata];
     }
 
     public float points(int member) throws IndexOutOfBoundsException {
@@ -374,7 +373,11 @@ public final class Katacode {
 
     public int ranked(int place) throws NoSuchElementException {
         for (int member = 0; member < memberCount; member++) {
-            if (placeOf(member) == place) {
+            int before = 0;
+            for (int other = 0; other < memberCount; other++) {
+                before += isRankedBefore(other, member) ? 1 : 0;
+            }
+            if (before == place) {
                 return member;
             }
         }
@@ -467,7 +470,7 @@ public final class Katacode {
         long sum = FIRST_CHECKSUM;
         for (int work = 0; work < workCount; work++) {
             sum = sum * FACTOR + works[work].state;
-            sum = sum * FACTOR + works[work].votesTimesWeights();
+            sum = sum * FACTOR + works[work].votesTimesWeights;
         }
         for (int member = 0; member < memberCount; member++) {
             sum = sum * FACTOR + members[member].honour;
@@ -634,13 +637,14 @@ public final class Katacode {
         if (isFailing != (other.state == FAILING)) {
             return isFailing;
         }
-        return one.weightSum() < other.weightSum();
+        return one.weightSum < other.weightSum;
     }
 
     private void dropBody(Work work) {
         Kata kata = katas[work.kata];
         for (int test = 0; test < kata.testCount; test++) {
-            work.keptSteps[test] = stepsDoneBy(work.body, kata.tests[test]);
+            judge.execute(work.body, kata.tests[test]);
+            work.keptSteps[test] = judge.stepsDone;
         }
         work.keptCount = kata.testCount;
         work.keptAt = testChanges;
@@ -656,10 +660,8 @@ public final class Katacode {
     }
 
     private boolean isReviewedBefore(Work one, Work other) {
-        int votes = one.voteCount();
-        int otherVotes = other.voteCount();
-        if (votes != otherVotes) {
-            return votes < otherVotes;
+        if (one.voteCount != other.voteCount) {
+            return one.voteCount < other.voteCount;
         }
         return katas[one.kata].level < katas[other.kata].level;
     }
@@ -675,62 +677,62 @@ public final class Katacode {
         return divisor;
     }
 
-    private int takenWork(int member, int kata) {
-        int taken = NONE;
-        for (int work = 0; work < workCount; work++) {
-            Work seen = works[work];
-            boolean isMeant = seen.owner == member && seen.kata == kata && seen.isCounted();
-            if (isMeant && (taken == NONE || seen.hasGreaterStyleThan(works[taken]))) {
-                taken = work;
-            }
-        }
-        return taken;
+    private float pointsOf(int member) {
+        takeWorks(member);
+        return takenPoints();
     }
 
-    private float pointsOf(int member) {
+    private int beltOf(int member) {
+        takeWorks(member);
+        return takenBelt();
+    }
+
+    /** Leaves in takenRow which work of the member is taken for each kata. */
+    private void takeWorks(int member) {
+        takeNone();
+        for (int work = 0; work < workCount; work++) {
+            Work seen = works[work];
+            if (seen.owner == member && seen.isCounted()) {
+                int taken = takenRow[seen.kata];
+                if (taken == NONE || seen.hasGreaterStyleThan(works[taken])) {
+                    takenRow[seen.kata] = work;
+                }
+            }
+        }
+    }
+
+    private void takeNone() {
+        for (int kata = 0; kata < MOST_KATAS; kata++) {
+            takenRow[kata] = NONE;
+        }
+    }
+
+    private float takenPoints() {
         float points = 0.0f;
         for (int kata = 0; kata < kataCount; kata++) {
-            int taken = takenWork(member, kata);
+            int taken = takenRow[kata];
             if (taken != NONE) {
-                points = points + pointsFor(works[taken]);
+                int product = katas[kata].level * works[taken].styleAbove();
+                int weights = works[taken].styleUnder();
+                points = points + (weights == 0 ? 0.0f : (float) product / (float) weights);
             }
         }
         return points;
     }
 
-    private float pointsFor(Work work) {
-        int product = katas[work.kata].level * work.styleAbove();
-        int weights = work.styleUnder();
-        return weights == 0 ? 0.0f : (float) product / (float) weights;
-    }
-
-    private int beltOf(int member) {
+    private int takenBelt() {
         int takenCount = 0;
         for (int kata = 0; kata < kataCount; kata++) {
-            takenCount += takenWork(member, kata) == NONE ? 0 : 1;
+            takenCount += takenRow[kata] == NONE ? 0 : 1;
         }
-        float points = pointsOf(member);
+        float points = takenPoints();
         int belt = 0;
         for (int next = 1; next <= MOST_BELT; next++) {
-            if (isEnoughFor(next, takenCount, points)) {
+            if (takenCount >= next && points >= (float) (2 * next * (next + 1))) {
                 belt = next;
             }
         }
         return belt;
-    }
-
-    private static boolean isEnoughFor(int belt, int takenCount, float points) {
-        return takenCount >= belt && points >= (float) (2 * belt * (belt + 1));
-    }
-
-    private int placeOf(int member) {
-        int place = 0;
-        for (int other = 0; other < memberCount; other++) {
-            if (other != member && isRankedBefore(other, member)) {
-                place++;
-            }
-        }
-        return place;
     }
 
     private boolean isRankedBefore(int one, int other) {
@@ -805,6 +807,11 @@ public final class Katacode {
     }
 
     private boolean areBeltsSound() {
+        for (int work = 0; work < workCount; work++) {
+            if (!works[work].areSumsOfVotes()) {
+                return false;
+            }
+        }
         for (int member = 0; member < memberCount; member++) {
             if (beltOf(member) != beltFromBehind(member)) {
                 return false;
@@ -813,11 +820,9 @@ public final class Katacode {
         return true;
     }
 
-    /** Looks at the works from the last to the first; the points are still added by rising katas, as floats round. */
+    /** The points are still added by rising katas, as another order of floats could round otherwise. */
     private int beltFromBehind(int member) {
-        for (int kata = 0; kata < kataCount; kata++) {
-            takenRow[kata] = NONE;
-        }
+        takeNone();
         for (int work = workCount - 1; work >= 0; work--) {
             Work seen = works[work];
             if (seen.owner == member && seen.isCounted()) {
@@ -827,19 +832,7 @@ public final class Katacode {
                 }
             }
         }
-        int takenCount = 0;
-        float points = 0.0f;
-        for (int kata = 0; kata < kataCount; kata++) {
-            if (takenRow[kata] != NONE) {
-                takenCount++;
-                points = points + pointsFor(works[takenRow[kata]]);
-            }
-        }
-        int belt = MOST_BELT;
-        while (belt > 0 && !isEnoughFor(belt, takenCount, points)) {
-            belt--;
-        }
-        return belt;
+        return takenBelt();
     }
 
     private boolean areChallengesSound() {
@@ -1086,10 +1079,10 @@ public final class Katacode {
                     replace(0, below);
                     break;
                 case 'p':
-                    pop(1);
+                    pop();
                     break;
                 case 'o':
-                    pop(1);
+                    pop();
                     write(top);
                     break;
                 case '[':
@@ -1109,13 +1102,13 @@ public final class Katacode {
             return index >= 0 && index < MOST_STACK ? stack[index] : 0;
         }
 
-        private void pop(int count) {
-            depth = depth >= count ? depth - count : 0;
+        private void pop() {
+            depth = depth > 0 ? depth - 1 : 0;
         }
 
         /** Pops some numbers and pushes one. */
         private void replace(int popped, int number) {
-            pop(popped);
+            depth = depth >= popped ? depth - popped : 0;
             if (depth < MOST_STACK) {
                 stack[depth] = number;
                 depth++;
@@ -1200,6 +1193,9 @@ public final class Katacode {
         // A vote of 0 stands for none.
         final int[] votes = new int[MOST_MEMBERS];
         final int[] weights = new int[MOST_MEMBERS];
+        int voteCount = 0;
+        int weightSum = 0;
+        int votesTimesWeights = 0;
         int owner = 0;
         int kata = 0;
         int length = 0;
@@ -1229,38 +1225,31 @@ public final class Katacode {
             return state == PASSING || state == PROVED || state == CHALLENGED;
         }
 
-        int voteCount() {
-            int count = 0;
-            for (int member = 0; member < MOST_MEMBERS; member++) {
-                count += votes[member] == 0 ? 0 : 1;
-            }
-            return count;
+        void takeVote(int member, int style, int weight) {
+            voteCount += votes[member] == 0 ? 1 : 0;
+            weightSum += weight - weights[member];
+            votesTimesWeights += style * weight - votes[member] * weights[member];
+            votes[member] = style;
+            weights[member] = weight;
         }
 
-        int weightSum() {
+        boolean areSumsOfVotes() {
             int sumOfWeights = 0;
-            for (int member = 0; member < MOST_MEMBERS; member++) {
-                sumOfWeights += weights[member];
-            }
-            return sumOfWeights;
-        }
-
-        int votesTimesWeights() {
             int sumOfProducts = 0;
-            for (int member = 0; member < MOST_MEMBERS; member++) {
+            for (int member = MOST_MEMBERS - 1; member >= 0; member--) {
+                sumOfWeights += weights[member];
                 sumOfProducts += votes[member] * weights[member];
             }
-            return sumOfProducts;
+            return sumOfWeights == weightSum && sumOfProducts == votesTimesWeights;
         }
 
         /** The style is styleAbove() divided by styleUnder(), 1 without votes. */
         int styleAbove() {
-            return weightSum() == 0 ? 1 : votesTimesWeights();
+            return weightSum == 0 ? 1 : votesTimesWeights;
         }
 
         int styleUnder() {
-            int weightsInAll = weightSum();
-            return weightsInAll == 0 ? 1 : weightsInAll;
+            return weightSum == 0 ? 1 : weightSum;
         }
 
         boolean hasGreaterStyleThan(Work other) {

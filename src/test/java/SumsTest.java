@@ -110,6 +110,8 @@ public final class SumsTest {
         check.same("c without a challenge", soundWith(x -> set(x, "openCount", 0)), false);
         check.same("a challenge without c", soundWith(x -> set(work(x, 2), "state", 'p')), false);
         check.same("a challenge of another one", soundWith(x -> ((int[]) get(x, "openWorks"))[0] = 0), false);
+        check.same("another sum of weights", soundWith(x -> set(work(x, 0), "weightSum", 1)), false);
+        check.same("another sum of votes", soundWith(x -> set(work(x, 0), "votesTimesWeights", 1)), false);
         check.same("nothing changed", soundWith(x -> { }), true);
     }
 
