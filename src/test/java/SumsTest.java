@@ -112,6 +112,7 @@ public final class SumsTest {
         check.same("a challenge of another one", soundWith(x -> ((int[]) get(x, "openWorks"))[0] = 0), false);
         check.same("another sum of weights", soundWith(x -> set(work(x, 0), "weightSum", 1)), false);
         check.same("another sum of votes", soundWith(x -> set(work(x, 0), "votesTimesWeights", 1)), false);
+        check.same("one challenge twice, another not at all", isSoundWithOneOpenTwice(), false);
         check.same("nothing changed", soundWith(x -> { }), true);
     }
 
@@ -124,6 +125,18 @@ public final class SumsTest {
         x.challenge(1, 2);
         Dojo.test(x, 0, Dojo.row(1), Dojo.row(2));
         change.accept(x);
+        return x.isSound();
+    }
+
+    private static boolean isSoundWithOneOpenTwice() {
+        Katacode x = Dojo.doubling(2, 1);
+        for (int work = 0; work < 2; work++) {
+            Dojo.submit(x, 0, 0, Dojo.DOUBLE);
+            x.drop(work);
+            x.challenge(1, work);
+        }
+        check.same("two that are open", x.isSound(), true);
+        ((int[]) get(x, "openWorks"))[1] = 0;
         return x.isSound();
     }
 
