@@ -84,108 +84,95 @@ public final class ProgramsTest {
         check.same("clear of both kinds", x.clear(), 2);
     }
 
-    private static void runs(String program, int[] input, int[] expected, char due, int done, int depth, int... outputs) {
-        Katacode x = new Katacode();
-        x.kata(1);
-        Dojo.test(x, 0, input, expected);
-        check.same("'" + program + "'", Dojo.run(x, 0, 0, program), due);
-        check.same("done of '" + program + "'", x.done(), done);
-        check.same("depth of '" + program + "'", x.depth(), depth);
-        check.same("outputs of '" + program + "'", x.outputs(), outputs.length);
-        for (int i = 0; i < outputs.length && i < x.outputs(); i++) {
-            check.same("output " + i + " of '" + program + "'", x.output(i), outputs[i]);
-        }
-    }
-
     private static void runAnswers() {
         int[] none = Dojo.NO_NUMBERS;
-        runs("", none, none, 'o', 0, 0);
-        runs("", none, Dojo.row(0), 'w', 0, 0);
-        runs("n1 o", none, none, 'w', 2, 0, 1);
-        runs("n1 o n2 o", none, Dojo.row(1, 2), 'o', 4, 0, 1, 2);
-        runs("n1 o n2 o", none, Dojo.row(1, 3), 'w', 4, 0, 1, 2);
-        runs("n1 o n2 o", none, Dojo.row(2, 2), 'w', 4, 0, 1, 2);
-        runs("n1 o", none, Dojo.row(1, 2), 'w', 2, 0, 1);
-        runs("n1 o n1 o", none, Dojo.row(1), 'w', 4, 0, 1, 1);
-        runs("i o i o i o i o", Dojo.row(-999, 2, 3, 999), Dojo.row(-999, 2, 3, 999), 'o', 8, 0, -999, 2, 3, 999);
-        runs("i o", Dojo.row(5, 6), Dojo.row(5), 'o', 2, 0, 5);
+        check.run("", none, none, 'o', 0, 0);
+        check.run("", none, Dojo.row(0), 'w', 0, 0);
+        check.run("n1 o", none, none, 'w', 2, 0, 1);
+        check.run("n1 o n2 o", none, Dojo.row(1, 2), 'o', 4, 0, 1, 2);
+        check.run("n1 o n2 o", none, Dojo.row(1, 3), 'w', 4, 0, 1, 2);
+        check.run("n1 o n2 o", none, Dojo.row(2, 2), 'w', 4, 0, 1, 2);
+        check.run("n1 o", none, Dojo.row(1, 2), 'w', 2, 0, 1);
+        check.run("n1 o n1 o", none, Dojo.row(1), 'w', 4, 0, 1, 1);
+        check.run("i o i o i o i o", Dojo.row(-999, 2, 3, 999), Dojo.row(-999, 2, 3, 999), 'o', 8, 0, -999, 2, 3, 999);
+        check.run("i o", Dojo.row(5, 6), Dojo.row(5), 'o', 2, 0, 5);
     }
 
     private static void letters() {
         int[] none = Dojo.NO_NUMBERS;
-        runs("n7 n2 + o", none, none, 'w', 4, 0, 9);
-        runs("n7 n2 - o", none, none, 'w', 4, 0, 5);
-        runs("n7 n2 * o", none, none, 'w', 4, 0, 14);
-        runs("n7 n2 % o", none, none, 'w', 4, 0, 1);
-        runs("n-7 n2 % o", none, none, 'w', 4, 0, -1);
-        runs("n7 n-2 % o", none, none, 'w', 4, 0, 1);
-        runs("n-7 n-2 % o", none, none, 'w', 4, 0, -1);
-        runs("n7 n2 d o o o", none, none, 'w', 6, 0, 2, 2, 7);
-        runs("n7 n2 s o o", none, none, 'w', 5, 0, 7, 2);
-        runs("n7 n2 p o", none, none, 'w', 4, 0, 7);
-        runs("n7 n2", none, none, 'o', 2, 2);
+        check.run("n7 n2 + o", none, none, 'w', 4, 0, 9);
+        check.run("n7 n2 - o", none, none, 'w', 4, 0, 5);
+        check.run("n7 n2 * o", none, none, 'w', 4, 0, 14);
+        check.run("n7 n2 % o", none, none, 'w', 4, 0, 1);
+        check.run("n-7 n2 % o", none, none, 'w', 4, 0, -1);
+        check.run("n7 n-2 % o", none, none, 'w', 4, 0, 1);
+        check.run("n-7 n-2 % o", none, none, 'w', 4, 0, -1);
+        check.run("n7 n2 d o o o", none, none, 'w', 6, 0, 2, 2, 7);
+        check.run("n7 n2 s o o", none, none, 'w', 5, 0, 7, 2);
+        check.run("n7 n2 p o", none, none, 'w', 4, 0, 7);
+        check.run("n7 n2", none, none, 'o', 2, 2);
         // 999 to the fourth power wraps around.
-        runs("n999 d * d * o", none, none, 'w', 6, 0, (int) (999L * 999 * 999 * 999));
-        runs("n2 d * d * d * d * d * n0 n1 - % o", none, none, 'w', 16, 0, 0);
+        check.run("n999 d * d * o", none, none, 'w', 6, 0, (int) (999L * 999 * 999 * 999));
+        check.run("n2 d * d * d * d * d * n0 n1 - % o", none, none, 'w', 16, 0, 0);
     }
 
     private static void brackets() {
         int[] none = Dojo.NO_NUMBERS;
-        runs("n0 [ n5 o ] o", none, none, 'w', 3, 0, 0);
-        runs("n1 [ n0 ] o", none, none, 'w', 5, 1, 0);
-        runs("n3 [ d o n1 - ] p", none, Dojo.row(3, 2, 1), 'o', 18, 0, 3, 2, 1);
-        runs("n2 [ n3 [ n1 - ] p n1 - ] p", none, none, 'o', 2 + 2 * 15 + 1, 0);
+        check.run("n0 [ n5 o ] o", none, none, 'w', 3, 0, 0);
+        check.run("n1 [ n0 ] o", none, none, 'w', 5, 1, 0);
+        check.run("n3 [ d o n1 - ] p", none, Dojo.row(3, 2, 1), 'o', 18, 0, 3, 2, 1);
+        check.run("n2 [ n3 [ n1 - ] p n1 - ] p", none, none, 'o', 2 + 2 * 15 + 1, 0);
         // The inner pair is passed by the outer '[' as a whole, and by the outer ']' back to behind the outer '['.
-        runs("n0 [ [ ] ] n4 o", none, none, 'w', 4, 1, 4);
-        runs("n1 [ ] o", none, none, 't', 300, 1);
-        runs("n0 [ ] o", none, none, 'w', 3, 0, 0);
-        runs("n1 [ p n0 ] p", none, none, 'o', 6, 0);
-        runs("n1 [ o n0 ] [ n7 o ] p", none, Dojo.row(1), 'o', 7, 0, 1);
+        check.run("n0 [ [ ] ] n4 o", none, none, 'w', 4, 1, 4);
+        check.run("n1 [ ] o", none, none, 't', 300, 1);
+        check.run("n0 [ ] o", none, none, 'w', 3, 0, 0);
+        check.run("n1 [ p n0 ] p", none, none, 'o', 6, 0);
+        check.run("n1 [ o n0 ] [ n7 o ] p", none, Dojo.row(1), 'o', 7, 0, 1);
     }
 
     private static void errors() {
         int[] none = Dojo.NO_NUMBERS;
         for (String program : new String[] {"+", "-", "*", "%", "s", "d", "p", "o", "[ ]"}) {
-            runs(program, none, none, 'u', 0, 0);
+            check.run(program, none, none, 'u', 0, 0);
         }
         for (String program : new String[] {"n0 +", "n0 -", "n0 *", "n0 %", "n0 s"}) {
-            runs(program, none, none, 'u', 1, 1);
+            check.run(program, none, none, 'u', 1, 1);
         }
-        runs("n1 [ p ]", none, none, 'u', 3, 0);
-        runs("i", none, none, 'e', 0, 0);
-        runs("i i i o", Dojo.row(1, 2), none, 'e', 2, 2);
-        runs("n5 n0 %", none, none, 'z', 2, 2);
-        runs("n1 [ n1 ]", none, none, 'v', 2 + 11 * 2, 12);
-        runs("n1 d d d d d d d d d d d d", none, none, 'v', 12, 12);
-        runs("n1 d d d d d d d d d d d n1", none, none, 'v', 12, 12);
-        runs("n1 d d d d d d d d d d d i", Dojo.row(1), none, 'v', 12, 12);
-        runs("n1 d d d d d d o o o o o o o", none, none, 'l', 13, 1, 1, 1, 1, 1, 1, 1);
+        check.run("n1 [ p ]", none, none, 'u', 3, 0);
+        check.run("i", none, none, 'e', 0, 0);
+        check.run("i i i o", Dojo.row(1, 2), none, 'e', 2, 2);
+        check.run("n5 n0 %", none, none, 'z', 2, 2);
+        check.run("n1 [ n1 ]", none, none, 'v', 2 + 11 * 2, 12);
+        check.run("n1 d d d d d d d d d d d d", none, none, 'v', 12, 12);
+        check.run("n1 d d d d d d d d d d d n1", none, none, 'v', 12, 12);
+        check.run("n1 d d d d d d d d d d d i", Dojo.row(1), none, 'v', 12, 12);
+        check.run("n1 d d d d d d o o o o o o o", none, none, 'l', 13, 1, 1, 1, 1, 1, 1, 1);
     }
 
     private static void orderOfErrors() {
         // 297 steps up to behind the loop, with 0 on the stack: behind 300 steps, time comes before the other errors.
         String loop = "n59 [ n1 - d p ] ";
-        runs(loop + "n1 p p +", Dojo.NO_NUMBERS, Dojo.NO_NUMBERS, 't', 300, 0);
-        runs(loop + "n1 p n0 %", Dojo.NO_NUMBERS, Dojo.NO_NUMBERS, 't', 300, 2);
-        runs(loop + "n1 n1 n1 i", Dojo.NO_NUMBERS, Dojo.NO_NUMBERS, 't', 300, 4);
-        runs(loop + "n1 p p + +", Dojo.NO_NUMBERS, Dojo.NO_NUMBERS, 't', 300, 0);
-        runs(loop + "n1 p +", Dojo.NO_NUMBERS, Dojo.NO_NUMBERS, 'u', 299, 1);
-        runs("n1 d d d d d d d d d d d i", Dojo.NO_NUMBERS, Dojo.NO_NUMBERS, 'e', 12, 12);
-        runs("n0 %", Dojo.NO_NUMBERS, Dojo.NO_NUMBERS, 'u', 1, 1);
+        check.run(loop + "n1 p p +", Dojo.NO_NUMBERS, Dojo.NO_NUMBERS, 't', 300, 0);
+        check.run(loop + "n1 p n0 %", Dojo.NO_NUMBERS, Dojo.NO_NUMBERS, 't', 300, 2);
+        check.run(loop + "n1 n1 n1 i", Dojo.NO_NUMBERS, Dojo.NO_NUMBERS, 't', 300, 4);
+        check.run(loop + "n1 p p + +", Dojo.NO_NUMBERS, Dojo.NO_NUMBERS, 't', 300, 0);
+        check.run(loop + "n1 p +", Dojo.NO_NUMBERS, Dojo.NO_NUMBERS, 'u', 299, 1);
+        check.run("n1 d d d d d d d d d d d i", Dojo.NO_NUMBERS, Dojo.NO_NUMBERS, 'e', 12, 12);
+        check.run("n0 %", Dojo.NO_NUMBERS, Dojo.NO_NUMBERS, 'u', 1, 1);
     }
 
     private static void edgesOfErrors() {
         int[] none = Dojo.NO_NUMBERS;
         // 12 on the stack and 6 in the output are still fine, and s, + and the like need no room.
-        runs("n1 d d d d d d d d d d d s + d", none, none, 'o', 15, 12);
-        runs("n1 d d d d d o o o o o o", none, Dojo.row(1, 1, 1, 1, 1, 1), 'o', 12, 0, 1, 1, 1, 1, 1, 1);
+        check.run("n1 d d d d d d d d d d d s + d", none, none, 'o', 15, 12);
+        check.run("n1 d d d d d o o o o o o", none, Dojo.row(1, 1, 1, 1, 1, 1), 'o', 12, 0, 1, 1, 1, 1, 1, 1);
         // What ends behind its 300th step is not cut off.
-        runs("n99 [ n1 - ] p", none, none, 'o', 2 + 99 * 3 + 1, 0);
-        runs("n99 [ n1 - ] p n1", none, none, 't', 300, 0);
-        runs("n100 [ n1 - ] p", none, none, 't', 300, 2);
-        runs("n74 [ n1 - ] p n3", none, none, 'o', 2 + 74 * 3 + 2, 1);
-        runs("n59 [ n1 - d p ] n1 n1 n1", none, none, 'o', 2 + 59 * 5 + 3, 4);
-        runs("n59 [ n1 - d p ] n1 n1 n1 n1", none, none, 't', 300, 4);
+        check.run("n99 [ n1 - ] p", none, none, 'o', 2 + 99 * 3 + 1, 0);
+        check.run("n99 [ n1 - ] p n1", none, none, 't', 300, 0);
+        check.run("n100 [ n1 - ] p", none, none, 't', 300, 2);
+        check.run("n74 [ n1 - ] p n3", none, none, 'o', 2 + 74 * 3 + 2, 1);
+        check.run("n59 [ n1 - d p ] n1 n1 n1", none, none, 'o', 2 + 59 * 5 + 3, 4);
+        check.run("n59 [ n1 - d p ] n1 n1 n1 n1", none, none, 't', 300, 4);
     }
 
     private static void wrongRuns() {
