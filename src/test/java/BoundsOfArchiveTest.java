@@ -31,6 +31,7 @@ public final class BoundsOfArchiveTest {
         readAgain();
         copiesOfEachMember();
         copiesStay();
+        copiesOfTheirWorks();
         indexesOfCopies();
         check.finish();
     }
@@ -423,6 +424,35 @@ public final class BoundsOfArchiveTest {
         check.same("in b", copies(x, 2, 1), "0");
         x.read(2, 1);
         check.same("beside another", copies(x, 2, 2), "01");
+    }
+
+    /** Whatever the places are that copies come to, each is the body of its work. */
+    private static void copiesOfTheirWorks() {
+        check.words("to read again a work of which one has a copy makes it the newest");
+        String[] bodies = {Dojo.DOUBLE, Dojo.DOUBLE_BY_TWO, Dojo.SIX, "n2 n3 * o"};
+        int[][] reads = {{0, 1, 2}, {0, 1, 2, 0}, {0, 1, 2, 1}, {0, 1, 2, 2}, {0, 1, 0}, {0, 1, 2, 3}, {0, 1, 2, 3, 1, 0}};
+        for (int[] read : reads) {
+            Katacode x = Dojo.doubling(3, 1);
+            for (int work = 0; work < 4; work++) {
+                Dojo.submit(x, 0, 0, bodies[work]);
+            }
+            int count = 0;
+            for (int work : read) {
+                count = x.read(2, work);
+            }
+            for (int i = 0; i < count; i++) {
+                int work = x.copy(2, i);
+                x.drop(work);
+                x.challenge(1, work);
+                check.same("give " + work, x.give(2, work), 's');
+                check.same("steps of " + work, x.steps(work, 0), bodies[work].split(" ").length);
+                for (int step = 0; step < x.steps(work, 0); step++) {
+                    char due = bodies[work].split(" ")[step].charAt(0);
+                    check.same("letter " + step + " of " + work, x.letter(work, step), due);
+                }
+                check.same("isSound", x.isSound(), true);
+            }
+        }
     }
 
     private static void indexesOfCopies() {

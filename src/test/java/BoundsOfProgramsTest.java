@@ -29,6 +29,7 @@ public final class BoundsOfProgramsTest {
         differencesThatWrap();
         productsThatWrap();
         rests();
+        topsAndThoseBelow();
         opensBrackets();
         closesBrackets();
         bracketsAtTheEnds();
@@ -224,6 +225,21 @@ public final class BoundsOfProgramsTest {
         check.run(LEAST + " d % o", NONE, NONE, 'w', 10, 0, 0);
         check.run("n5 " + LEAST + " % o", NONE, NONE, 'w', 10, 0, 5);
         check.run("n-5 " + LEAST + " % o", NONE, NONE, 'w', 10, 0, -5);
+    }
+
+    private static void topsAndThoseBelow() {
+        check.words("push the one below plus, less, times the top");
+        check.run("n1 n7 n2 + o o", NONE, Dojo.row(9, 1), 'o', 6, 0, 9, 1);
+        check.run("n1 n7 n2 - o o", NONE, Dojo.row(5, 1), 'o', 6, 0, 5, 1);
+        check.run("n1 n7 n2 * o o", NONE, Dojo.row(14, 1), 'o', 6, 0, 14, 1);
+        check.run("n1 n7 n2 % o o", NONE, Dojo.row(1, 1), 'o', 6, 0, 1, 1);
+        check.words("'s' changes the places of the top and the one below, 'p' pops");
+        check.run("n1 n7 n2 s o o o", NONE, Dojo.row(7, 2, 1), 'o', 7, 0, 7, 2, 1);
+        check.run("n1 n7 n2 p o o", NONE, Dojo.row(7, 1), 'o', 6, 0, 7, 1);
+        check.words("'d' pushes the top again");
+        check.run("n1 n2 d o o o", NONE, Dojo.row(2, 2, 1), 'o', 6, 0, 2, 2, 1);
+        check.words("'o' pops, and puts that behind the output");
+        check.run("n1 n2 o o", NONE, Dojo.row(2, 1), 'o', 4, 0, 2, 1);
     }
 
     private static void opensBrackets() {
