@@ -1,3 +1,5 @@
+import java.util.function.Consumer;
+
 /** The boundary cases of promises 43 to 46: sums over the dojo, shares, means, and what is sound. */
 public final class BoundsOfSumsTest {
     private static final Check check = new Check("BoundsOfSumsTest");
@@ -20,6 +22,10 @@ public final class BoundsOfSumsTest {
         soundAtFirst();
         soundWithAsManyBodiesAsRoom();
         soundInEachState();
+        unsoundByOneBodyAlone();
+        unsoundByVotes();
+        unsoundByChallenges();
+        unsoundByRoom();
         check.finish();
     }
 
@@ -246,6 +252,7 @@ public final class BoundsOfSumsTest {
         check.same("with 1 of 1", x.isSound(), true);
         x.drop(13);
         check.same("with 0 of 1", x.isSound(), true);
+        check.same("with all that there can be", Scenes.full().isSound(), true);
     }
 
     private static void soundInEachState() {
@@ -269,5 +276,98 @@ public final class BoundsOfSumsTest {
         Dojo.fix(x, 0, 0, Dojo.row(3), Dojo.row(7));
         x.answer(2, 0);
         check.same("in b by its body", x.isSound(), true);
+    }
+
+    /** Works 0 and 3 of member 0 in s, 1 in f, 2 and 4 in c; the first and the last one have votes. */
+    private static Katacode ofFive() {
+        Katacode x = Dojo.doubling(10, 1);
+        for (int work = 0; work < 5; work++) {
+            Dojo.submit(x, 0, 0, work == 1 ? Dojo.SIX : Dojo.DOUBLE);
+        }
+        for (int work = 0; work < 5; work += 4) {
+            x.vote(1, work, 2);
+            x.vote(9, work, 4);
+        }
+        x.drop(2);
+        x.drop(4);
+        x.challenge(1, 2);
+        x.challenge(2, 4);
+        Dojo.test(x, 0, Dojo.row(1), Dojo.row(2));
+        return x;
+    }
+
+    private static void unsound(String what, Consumer<Katacode> change) {
+        Katacode x = ofFive();
+        check.same("before " + what, x.isSound(), true);
+        change.accept(x);
+        check.same(what, x.isSound(), false);
+    }
+
+    private static void unsoundByOneBodyAlone() {
+        check.words("each body has the sum of its work");
+        for (int work : new int[] {0, 1, 3}) {
+            long sum = ofFive().sum(work);
+            unsound("a greater sum of work " + work, x -> Insides.set(Insides.work(x, work), "sum", sum + 1));
+            unsound("a lesser sum of work " + work, x -> Insides.set(Insides.work(x, work), "sum", sum - 1));
+            unsound("another sum in the upper half of work " + work,
+                x -> Insides.set(Insides.work(x, work), "sum", sum + (1L << 32)));
+            unsound("another body of work " + work, x -> typeBehind(x, work, 'p'));
+        }
+        check.words("passes or fails as its state tells");
+        for (int work : new int[] {0, 3}) {
+            unsound("work " + work + " in f though it passes", x -> Insides.set(Insides.work(x, work), "state", 'f'));
+            unsound("work " + work + " in p with a body", x -> Insides.set(Insides.work(x, work), "state", 'p'));
+            unsound("work " + work + " in b with a body", x -> Insides.set(Insides.work(x, work), "state", 'b'));
+        }
+        unsound("work 1 in s though it fails", x -> Insides.set(Insides.work(x, 1), "state", 's'));
+    }
+
+    private static void typeBehind(Katacode x, int work, char letter) {
+        ((Katacode.Program) Insides.get(Insides.work(x, work), "body")).append(letter, 0);
+    }
+
+    private static void unsoundByVotes() {
+        check.words("each belt is what votes and states make");
+        for (int work : new int[] {0, 4}) {
+            for (int more : new int[] {-1, 1}) {
+                unsound("the sum of weights and " + more,
+                    x -> Insides.set(Insides.work(x, work), "weightSum", 2 + more));
+                unsound("votes times weights and " + more,
+                    x -> Insides.set(Insides.work(x, work), "votesTimesWeights", 6 + more));
+            }
+            for (int member : new int[] {1, 9}) {
+                unsound("another vote of " + member, x -> Insides.put(Insides.work(x, work), "votes", member, 5));
+            }
+            for (int member : new int[] {0, 1, 9}) {
+                unsound("another weight of " + member, x -> Insides.put(Insides.work(x, work), "weights", member, 2));
+            }
+        }
+    }
+
+    private static void unsoundByChallenges() {
+        check.words("works in c are those with an open challenge");
+        for (int index = 0; index < 2; index++) {
+            int place = index;
+            for (int work : new int[] {0, 1, 3}) {
+                unsound("a challenge of work " + work, x -> Insides.put(x, "openWorks", place, work));
+            }
+            unsound("a challenge twice", x -> Insides.put(x, "openWorks", place, place == 0 ? 4 : 2));
+        }
+        for (int work : new int[] {2, 4}) {
+            unsound("a challenge of work " + work + " in p", x -> Insides.set(Insides.work(x, work), "state", 'p'));
+            unsound("a challenge of work " + work + " in b", x -> Insides.set(Insides.work(x, work), "state", 'b'));
+        }
+        unsound("one challenge less", x -> Insides.set(x, "openCount", 1));
+        unsound("none", x -> Insides.set(x, "openCount", 0));
+    }
+
+    private static void unsoundByRoom() {
+        check.words("and bodies are at most the room");
+        Katacode x = ofFive();
+        check.same("bodies", x.bodies(), 3);
+        Insides.set(x, "room", 3);
+        check.same("as many as the room", x.isSound(), true);
+        Insides.set(x, "room", 2);
+        check.same("one more than the room", x.isSound(), false);
     }
 }

@@ -103,15 +103,15 @@ public final class SumsTest {
 
     /** No call makes an object unsound, so a field is changed from outside. */
     private static void unsound() {
-        check.same("another sum", soundWith(x -> set(work(x, 0), "sum", 1L)), false);
-        check.same("s though it fails", soundWith(x -> set(work(x, 1), "state", 's')), false);
-        check.same("f though it passes", soundWith(x -> set(work(x, 0), "state", 'f')), false);
-        check.same("more bodies than room", soundWith(x -> set(x, "room", 1)), false);
-        check.same("c without a challenge", soundWith(x -> set(x, "openCount", 0)), false);
-        check.same("a challenge without c", soundWith(x -> set(work(x, 2), "state", 'p')), false);
-        check.same("a challenge of another one", soundWith(x -> ((int[]) get(x, "openWorks"))[0] = 0), false);
-        check.same("another sum of weights", soundWith(x -> set(work(x, 0), "weightSum", 1)), false);
-        check.same("another sum of votes", soundWith(x -> set(work(x, 0), "votesTimesWeights", 1)), false);
+        check.same("another sum", soundWith(x -> Insides.set(Insides.work(x, 0), "sum", 1L)), false);
+        check.same("s though it fails", soundWith(x -> Insides.set(Insides.work(x, 1), "state", 's')), false);
+        check.same("f though it passes", soundWith(x -> Insides.set(Insides.work(x, 0), "state", 'f')), false);
+        check.same("more bodies than room", soundWith(x -> Insides.set(x, "room", 1)), false);
+        check.same("c without a challenge", soundWith(x -> Insides.set(x, "openCount", 0)), false);
+        check.same("a challenge without c", soundWith(x -> Insides.set(Insides.work(x, 2), "state", 'p')), false);
+        check.same("a challenge of another one", soundWith(x -> ((int[]) Insides.get(x, "openWorks"))[0] = 0), false);
+        check.same("another sum of weights", soundWith(x -> Insides.set(Insides.work(x, 0), "weightSum", 1)), false);
+        check.same("another sum of votes", soundWith(x -> Insides.set(Insides.work(x, 0), "votesTimesWeights", 1)), false);
         check.same("one challenge twice, another not at all", isSoundWithOneOpenTwice(), false);
         check.same("nothing changed", soundWith(x -> { }), true);
     }
@@ -136,31 +136,7 @@ public final class SumsTest {
             x.challenge(1, work);
         }
         check.same("two that are open", x.isSound(), true);
-        ((int[]) get(x, "openWorks"))[1] = 0;
+        ((int[]) Insides.get(x, "openWorks"))[1] = 0;
         return x.isSound();
-    }
-
-    private static Object work(Katacode x, int index) {
-        return ((Object[]) get(x, "works"))[index];
-    }
-
-    private static Object get(Object holder, String name) {
-        try {
-            java.lang.reflect.Field field = holder.getClass().getDeclaredField(name);
-            field.setAccessible(true);
-            return field.get(holder);
-        } catch (ReflectiveOperationException e) {
-            throw new AssertionError(e);
-        }
-    }
-
-    private static void set(Object holder, String name, Object value) {
-        try {
-            java.lang.reflect.Field field = holder.getClass().getDeclaredField(name);
-            field.setAccessible(true);
-            field.set(holder, value);
-        } catch (ReflectiveOperationException e) {
-            throw new AssertionError(e);
-        }
     }
 }
